@@ -1,64 +1,7 @@
 /** Each promise of the document with answers worked out by hand: ordinary inputs, edges, wrong inputs. */
-public final class PromisesTest {
-    private static final String ARGUMENT = "IllegalArgumentException";
-    private static final String STATE = "IllegalStateException";
+public final class PromisesTest extends DeskTest {
     private static final int[] WRONG_WAYS = {-1, 3, Integer.MIN_VALUE, Integer.MAX_VALUE};
     private static final int[] WRONG_UNITS = {-1, 10001, Integer.MIN_VALUE, Integer.MAX_VALUE};
-
-    private static int wrong = 0;
-
-    private interface Call {
-        long answer();
-    }
-
-    private static String outcome(Call call) {
-        try {
-            return Long.toString(call.answer());
-        } catch (RuntimeException e) {
-            return e.getClass().getSimpleName();
-        }
-    }
-
-    private static void due(String what, String want, Call call) {
-        String got = outcome(call);
-        if (!got.equals(want)) {
-            wrong++;
-            System.out.println(what + " answered " + got + ", due is " + want);
-        }
-    }
-
-    private static void due(String what, long want, Call call) {
-        due(what, Long.toString(want), call);
-    }
-
-    private static ShareDesk desk(int... weights) {
-        ShareDesk desk = new ShareDesk();
-        desk.begin(weights.length);
-        for (int i = 0; i < weights.length; i++) {
-            desk.weight(i, weights[i]);
-        }
-        return desk;
-    }
-
-    private static String begin(ShareDesk desk, int n) {
-        return outcome(() -> {
-            desk.begin(n);
-            return 0;
-        });
-    }
-
-    private static void shares(ShareDesk desk, int way, int m, int... want) {
-        for (int i = 0; i < want.length; i++) {
-            int party = i;
-            due("share(" + way + ", " + m + ", " + i + ")", want[i], () -> desk.share(way, m, party));
-        }
-    }
-
-    private static void counts(String when, ShareDesk desk, int parties, int total, int weighted) {
-        due(when + ": count(0)", parties, () -> desk.count(0));
-        due(when + ": count(1)", total, () -> desk.count(1));
-        due(when + ": count(2)", weighted, () -> desk.count(2));
-    }
 
     private static void newObject() {
         ShareDesk desk = new ShareDesk();
@@ -78,10 +21,7 @@ public final class PromisesTest {
         for (int n = 1; n <= 8; n++) {
             int parties = n;
             ShareDesk desk = desk(1, 2, 3, 4, 5, 6, 7, 8);
-            due("begin(" + n + ")", "0", () -> {
-                desk.begin(parties);
-                return 0;
-            });
+            due("begin(" + n + ")", 0, () -> begin(desk, parties));
             counts("after begin(" + n + ")", desk, n, 0, 0);
             due("share after begin(" + n + ")", STATE, () -> desk.share(1, 1, 0));
             for (int i = 0; i < n; i++) {
@@ -100,10 +40,7 @@ public final class PromisesTest {
     private static void wrongBeginning() {
         ShareDesk desk = desk(3, 0, 4);
         for (int n : new int[] {0, 9, -1, Integer.MIN_VALUE, Integer.MAX_VALUE}) {
-            if (!begin(desk, n).equals(ARGUMENT)) {
-                wrong++;
-                System.out.println("begin(" + n + ") does not throw " + ARGUMENT);
-            }
+            due("begin(" + n + ")", ARGUMENT, () -> begin(desk, n));
         }
         counts("after begins that threw", desk, 3, 7, 2);
         shares(desk, 0, 7, 3, 0, 4);
@@ -291,9 +228,6 @@ public final class PromisesTest {
         counts("after calls that threw", weighted, 3, 8, 3);
         wrongArguments(desk(0, 0, 0));
         allWeightsZero();
-        System.out.println(wrong == 0 ? "all answers are as due" : wrong + " answers are not as due");
-        if (wrong != 0) {
-            System.exit(1);
-        }
+        end();
     }
 }
