@@ -1,151 +1,75 @@
 import java.util.Arrays;
 import java.util.Random;
 
-/**
- * Holds the class against the document's words carried out as they stand: units are given out one by one and
- * rests are sought one by one, for every m, every party and every way.
- */
-public final class PlainModelTest {
+/** Holds all answers of the class for given weights against those of PlainDesk: every way, party and many m and k. */
+public final class PlainModelTest extends DeskTest {
     private static final int MOST_UNITS = 10000;
     private static final int CALLS_OF_AN_OBJECT = 512;
 
-    private static int wrong = 0;
+    private final int[] weights;
+    private final PlainDesk plain = new PlainDesk();
+    private ShareDesk current;
+    private int calls = CALLS_OF_AN_OBJECT;
 
-    /** Makes a new object before the calls of the old one are used up. */
-    private static final class Desks {
-        private final int[] weights;
-        private ShareDesk desk;
-        private int calls;
-
-        Desks(int[] weights) {
-            this.weights = weights;
-            calls = CALLS_OF_AN_OBJECT;
-        }
-
-        ShareDesk forCall() {
-            if (calls == CALLS_OF_AN_OBJECT) {
-                desk = new ShareDesk();
-                desk.begin(weights.length);
-                for (int i = 0; i < weights.length; i++) {
-                    desk.weight(i, weights[i]);
-                }
-                calls = 1 + weights.length;
-            }
-            calls++;
-            return desk;
-        }
-    }
-
-    private static int[] byRests(int[] weights, int m) {
-        long total = Arrays.stream(weights).asLongStream().sum();
-        int[] shares = new int[weights.length];
-        boolean[] served = new boolean[weights.length];
-        int left = m;
+    private PlainModelTest(int[] weights) {
+        this.weights = weights;
+        plain.begin(weights.length);
         for (int i = 0; i < weights.length; i++) {
-            shares[i] = (int) ((long) m * weights[i] / total);
-            left -= shares[i];
+            plain.weight(i, weights[i]);
         }
-        for (; left > 0; left--) {
-            int best = -1;
+    }
+
+    /** A new object is made before the calls of the old one are used up. */
+    private ShareDesk forCall() {
+        if (calls == CALLS_OF_AN_OBJECT) {
+            current = desk(weights);
+            calls = 1 + weights.length;
+        }
+        calls++;
+        return current;
+    }
+
+    private void compareShares(int way, int most, int stride) {
+        for (int each = 0; each <= most; each += stride) {
+            int m = each;
             for (int i = 0; i < weights.length; i++) {
-                if (!served[i] && (best < 0
-                        || (long) m * weights[i] % total > (long) m * weights[best] % total)) {
-                    best = i;
-                }
-            }
-            served[best] = true;
-            shares[best]++;
-        }
-        return shares;
-    }
-
-    private static int[] withOneMore(int way, int[] weights, int[] shares) {
-        int best = 0;
-        for (int i = 1; i < weights.length; i++) {
-            long divisor = way == 1 ? shares[i] + 1 : 2 * shares[i] + 1;
-            long bestDivisor = way == 1 ? shares[best] + 1 : 2 * shares[best] + 1;
-            if (weights[i] * bestDivisor > weights[best] * divisor) {
-                best = i;
-            }
-        }
-        int[] more = shares.clone();
-        more[best]++;
-        return more;
-    }
-
-    private static int[][] allShares(int way, int[] weights) {
-        int[][] all = new int[MOST_UNITS + 1][];
-        all[0] = new int[weights.length];
-        for (int m = 1; m <= MOST_UNITS; m++) {
-            all[m] = way == 0 ? byRests(weights, m) : withOneMore(way, weights, all[m - 1]);
-        }
-        return all;
-    }
-
-    private static int nextOf(int[] few, int[] more) {
-        int gainer = -1;
-        for (int i = 0; i < few.length; i++) {
-            if (more[i] == few[i] + 1 && gainer < 0) {
-                gainer = i;
-            } else if (more[i] != few[i]) {
-                return -1;
-            }
-        }
-        return gainer;
-    }
-
-    private static void due(String call, int[] weights, long got, long want) {
-        if (got != want) {
-            wrong++;
-            if (wrong <= 20) {
-                System.out.println(Arrays.toString(weights) + ": " + call + " answered " + got + ", due is " + want);
-            }
-        }
-    }
-
-    private static void compareShares(Desks desks, int way, int[][] all, int stride) {
-        int[] weights = desks.weights;
-        long total = Arrays.stream(weights).asLongStream().sum();
-        for (int m = 0; m <= MOST_UNITS; m += stride) {
-            for (int i = 0; i < weights.length; i++) {
+                int party = i;
                 String call = "(" + way + ", " + m + ", " + i + ")";
-                due("share" + call, weights, desks.forCall().share(way, m, i), all[m][i]);
-                due("over" + call, weights, desks.forCall().over(way, m, i),
-                        all[m][i] * total - (long) m * weights[i]);
+                due("share" + call, plain.share(way, m, party), () -> forCall().share(way, m, party));
+                due("over" + call, plain.over(way, m, party), () -> forCall().over(way, m, party));
             }
             if (m < MOST_UNITS) {
-                due("next(" + way + ", " + m + ")", weights, desks.forCall().next(way, m),
-                        nextOf(all[m], all[m + 1]));
+                due("next(" + way + ", " + m + ")", plain.next(way, m), () -> forCall().next(way, m));
             }
         }
     }
 
-    private static void compareLeast(Desks desks, int way, int[][] all, int stride) {
-        int[] weights = desks.weights;
-        for (int i = 0; i < weights.length; i++) {
-            int most = 0;
+    private void compareLeast(int way, int k, int party, int m) {
+        due("least(" + way + ", " + k + ", " + party + ")", m, () -> forCall().least(way, k, party));
+    }
+
+    /** Asked for where the share grows to a new height: the model would be slow with every k. */
+    private void compareLeasts(int way, int most, int stride) {
+        for (int party = 0; party < weights.length; party++) {
+            int highest = 0;
             int nextAsked = 0;
-            for (int m = 0; m <= MOST_UNITS; m++) {
-                if (m == 0 || all[m][i] > most) {
-                    most = all[m][i];
-                    if (most >= nextAsked) {
-                        due("least(" + way + ", " + most + ", " + i + ")", weights,
-                                desks.forCall().least(way, most, i), m);
-                        nextAsked = most + stride;
-                    }
+            for (int m = 0; m <= most; m++) {
+                highest = Math.max(highest, plain.share(way, m, party));
+                if (highest >= nextAsked) {
+                    compareLeast(way, highest, party, m);
+                    nextAsked = highest + stride;
                 }
             }
-            due("least(" + way + ", " + (most + 1) + ", " + i + ")", weights,
-                    desks.forCall().least(way, most + 1, i), -1);
+            compareLeast(way, highest + 1, party, plain.least(way, highest + 1, party));
         }
     }
 
-    private static void compare(int stride, int... weights) {
-        Desks desks = new Desks(weights);
+    private static void compare(int most, int stride, int... weights) {
+        sentence(Arrays.toString(weights));
+        PlainModelTest test = new PlainModelTest(weights);
         for (int way = 0; way <= 2; way++) {
-            int[][] all = allShares(way, weights);
-            compareShares(desks, way, all, stride);
-            compareLeast(desks, way, all, stride);
+            test.compareShares(way, most, stride);
+            test.compareLeasts(way, most, stride);
         }
     }
 
@@ -160,25 +84,37 @@ public final class PlainModelTest {
         return weights;
     }
 
+    /** Small weights are alike most often, in their bids and their rests. */
+    private static void allSmallWeights() {
+        int most = 6;
+        for (int a = 0; a <= most; a++) {
+            for (int b = 0; b <= most; b++) {
+                for (int c = 0; c <= most; c++) {
+                    if (a + b + c > 0) {
+                        compare(40, 1, a, b, c);
+                    }
+                }
+            }
+        }
+    }
+
     public static void main(String[] args) {
-        compare(1, 1);
-        compare(1, 0, 100000);
-        compare(1, 6, 6, 2);
-        compare(1, 1, 1, 1, 1, 1, 1, 1, 1);
-        compare(1, 100000, 100000, 100000, 100000, 100000, 100000, 100000, 100000);
-        compare(1, 100000, 1, 99999, 0, 50000, 33333, 7, 2);
-        compare(1, 1, 2, 3, 4, 6, 8, 12, 24);
-        compare(1, 24, 12, 8, 6, 4, 3, 2, 1);
-        compare(37, 100000, 100000, 100000, 100000, 100000, 100000, 100000, 1);
-        compare(37, 1, 100000);
+        compare(MOST_UNITS, 1, 1);
+        compare(MOST_UNITS, 1, 0, 100000);
+        compare(MOST_UNITS, 1, 6, 6, 2);
+        compare(MOST_UNITS, 1, 1, 1, 1, 1, 1, 1, 1, 1);
+        compare(MOST_UNITS, 1, 100000, 100000, 100000, 100000, 100000, 100000, 100000, 100000);
+        compare(MOST_UNITS, 1, 100000, 1, 99999, 0, 50000, 33333, 7, 2);
+        compare(MOST_UNITS, 1, 1, 2, 3, 4, 6, 8, 12, 24);
+        compare(MOST_UNITS, 1, 24, 12, 8, 6, 4, 3, 2, 1);
+        compare(MOST_UNITS, 37, 100000, 100000, 100000, 100000, 100000, 100000, 100000, 1);
+        compare(MOST_UNITS, 37, 1, 100000);
+        allSmallWeights();
         // The seed is written out, so every run asks the same.
         Random random = new Random(20261115L);
         for (int i = 0; i < 150; i++) {
-            compare(1 + random.nextInt(60), someWeights(random));
+            compare(MOST_UNITS, 1 + random.nextInt(60), someWeights(random));
         }
-        System.out.println(wrong == 0 ? "all answers are as due" : wrong + " answers are not as due");
-        if (wrong != 0) {
-            System.exit(1);
-        }
+        end();
     }
 }
