@@ -277,6 +277,10 @@ public final class PromiseBoundariesTest extends DeskTest {
             due("least of 5000 of two alike", 10000, () -> desk(7, 7).least(each, 5000, 1));
             due("least of 5001 of two alike", -1, () -> desk(7, 7).least(each, 5001, 0));
             due("least of 1 for no weight", -1, () -> desk(0, 1).least(each, 1, 0));
+            // Here (k - 1) * W and what ways 1 and 2 multiply out are the greatest.
+            int[] oneSmall = {100000, 100000, 100000, 100000, 100000, 100000, 100000, 1};
+            due("least of 10000 for the least weight", -1, () -> desk(oneSmall).least(each, 10000, 7));
+            due("least of 10000 beside the least weight", -1, () -> desk(oneSmall).least(each, 10000, 0));
         }
     }
 
